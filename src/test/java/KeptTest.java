@@ -7,6 +7,9 @@ public final class KeptTest {
     public static void main(String[] args) {
         keepAheadOfTheRun();
         keepInTheRun();
+        boughtSinceThen();
+        manyVenues();
+        anew();
         whatIsKept();
         sizes();
         troubles();
@@ -90,6 +93,94 @@ public final class KeptTest {
         x.ticks(3);
         x.back();
         same("what was kept before is no more", all(x), later);
+    }
+
+    /** More units of an ENTRY, and more SLIP. */
+    private static void boughtSinceThen() {
+        OrderSplit x = Checks.made("order 9 limit 20 life 1;venue a plain lot 1 fee 0 least 0 delay 1;level a 5 3;level a 7 9");
+        x.begin();
+        x.resize(0, 0, 0);
+        x.resize(0, 1, 2);
+        x.ticks(2);
+        int slip = x.now(4);
+        Checks.is("SLIP", slip, 14 - 57 * 2 / 9);
+        x.keep();
+        x.resize(0, 1, 9);
+        x.ticks(1);
+        x.resize(0, 0, 2);
+        x.ticks(1);
+        Checks.is("bought(0, 7)", x.bought(0, 7), 2 + 5);
+        Checks.is("SLIP, with two cheaper ones", x.now(4), slip - 4);
+        x.back();
+        Checks.is("bought(0, 7) as kept", x.bought(0, 7), 2);
+        Checks.is("entry(0, 2) as kept", x.entry(0, 2), 2);
+        Checks.is("SLIP as kept", x.now(4), slip);
+    }
+
+    private static final String FIVE = "order 50 limit 30 life 1;venue a flat lot 3 fee 2 least 1 delay 1"
+        + ";venue b tiers lot 2 fee 2 least 1 delay 2;venue c plain lot 1 fee 2 least 1 delay 3"
+        + ";venue d flat lot 1 fee 2 least 1 delay 1;venue e tiers lot 5 fee 2 least 2 delay 1"
+        + ";level a 9 3;level b 8 4;level c 7 5;level d 6 6;level e 5 10;level e 6 10;level e 30 1;event 4 e 1 20";
+
+    /** All rows are kept, to the last VENUE; and gone ahead with. */
+    private static void manyVenues() {
+        OrderSplit x = Checks.made(FIVE);
+        Checks.is("begin()", x.begin(), 5);
+        x.keep();
+        int units = x.will(2);
+        int spent = x.will(3);
+        x.resize(4, 1, 0);
+        x.ticks(30);
+        x.back();
+        Checks.is("level(4, 1, 1)", x.level(4, 1, 1), 10);
+        for (int v = 0; v < 5; v++) {
+            Checks.is("part(" + v + ", 0)", x.part(v, 0), 1);
+        }
+        Checks.is("units bought as foretold", x.ticks(100), units);
+        Checks.is("SPENT as foretold", x.now(3), spent);
+        // 3 + 4 + 5 + 6 + 20, and 10 more of the EVENT
+        Checks.is("units bought", units, 48);
+        Checks.is("SPENT", spent, 27 + 1 + 32 + 8 + 35 + 10 + 36 + 1 + 50 + 60 + 40 + 60 + 20);
+    }
+
+    /** Nothing of a SPLIT, or of its run, is left in the next one. */
+    private static void anew() {
+        OrderSplit x = Checks.made(FIVE);
+        x.plan(0, 3);
+        x.begin();
+        x.call(4);
+        x.ticks(1);
+        Checks.load(x, FIVE);
+        x.plan(4, 5);
+        x.begin();
+        x.resize(4, 0, 0);
+        x.ticks(7);
+        Checks.is("entries()", x.entries() > 0, true);
+        Checks.load(x, TEXT);
+        Checks.is("planned(0)", x.planned(0), 0);
+        Checks.is("venue(0, 5)", x.venue(0, 5), 2);
+        Checks.is("begin()", x.begin(), 2);
+        int[] want = {0, 10, 0, 0, 0, 1, 0, 3};
+        for (int i = 0; i < 8; i++) {
+            Checks.is("now(" + i + ")", x.now(i), want[i]);
+        }
+        Checks.is("entries()", x.entries(), 0);
+        Checks.is("part(0, 6)", x.part(0, 6), -2);
+        Checks.is("will(3)", x.will(3), 117);
+        Checks.is("will(0)", x.will(0), 10);
+        x.ticks(8);
+        Checks.load(x, "order 3 limit 9 life 1;venue z plain lot 1 fee 0 least 0 delay 1");
+        Checks.is("venue(0, 5)", x.venue(0, 5), 0);
+        Checks.is("about(4)", x.about(4), 0);
+        Checks.is("planned(0)", x.planned(0), 0);
+        Checks.is("begin()", x.begin(), 0);
+        Checks.is("part(0, 0)", x.part(0, 0), 0);
+        Checks.is("now(7)", x.now(7), 0);
+        Checks.is("now(6)", x.now(6), 1);
+        // other kinds and lots than those that were looked ahead with
+        Checks.load(x, FIVE);
+        x.begin();
+        Checks.is("will(2)", x.will(2), 48);
     }
 
     /** THE TAPE isn't the SPLIT's, and FAULTS are those of calls. */

@@ -15,6 +15,7 @@ public final class SplitsTest {
         leastCharge();
         likeOnes();
         bounds();
+        boundAtLimit();
         greedy();
         worth();
         fewest();
@@ -81,6 +82,8 @@ public final class SplitsTest {
     /** Promises 15 to 17. */
     private static void bounds() {
         OrderSplit x = Checks.made(FEES);
+        Checks.is("margin(9), the first call", x.margin(9), 13);
+        Checks.is("gap(9), the next", x.gap(9), 30);
         bound(x, 1, 11, 11);
         bound(x, 4, 44, 11);
         bound(x, 5, 56, 12);
@@ -96,6 +99,13 @@ public final class SplitsTest {
         bound(x, 3, 30, 10);
         x.resize(1, 0, 0);
         bound(x, 4, 43, 13);
+    }
+
+    /** A LEVEL at LIMIT counts, and one of a single unit. */
+    private static void boundAtLimit() {
+        OrderSplit x = Checks.made("order 9 limit 9 life 1;venue a plain lot 1" + FREE + ";level a 9 1;level a 10 1");
+        bound(x, 5, 9, 9);
+        split(x, 5, 9, 1);
     }
 
     private static void greedy(OrderSplit x, int q, int cost, int units, int venues) {
