@@ -716,28 +716,32 @@ public final class OrderSplit {
 
         /** THE BEST of q (0 .. 120), without one VENUE if that isn't NONE. */
         void choose(Market m, int q, int without) {
-            prepare(m, q, without);
-            for (int u = 0; u <= q; u++) {
+            int most = prepare(m, q, without);
+            for (int u = 0; u <= most; u++) {
                 leastCosts[m.venues * WIDTH + u] = u == 0 ? 0 : FAR;
             }
             for (int v = m.venues - 1; v >= 0; v--) {
-                for (int u = 0; u <= q; u++) {
+                for (int u = 0; u <= most; u++) {
                     leastCosts[v * WIDTH + u] = leastCostFrom(v, u, m.lotOf(v));
                 }
             }
-            chosenUnits = mostUnits(leastCosts, q);
+            chosenUnits = mostUnits(leastCosts, most);
             chosenCost = leastCosts[chosenUnits];
             deal(m);
         }
 
-        private void prepare(Market m, int q, int without) {
+        /** Sets rooms and costs for a SPLIT of q: no SPLIT has more units than this answers. */
+        private int prepare(Market m, int q, int without) {
+            int sum = 0;
             for (int v = 0; v < m.venues; v++) {
                 rooms[v] = v == without ? 0 : m.wholeLots(v, q);
+                sum += rooms[v];
                 int lot = m.lotOf(v);
                 for (int n = 0; n <= rooms[v]; n += lot) {
                     costs[v * WIDTH + n] = m.costOf(v, n);
                 }
             }
+            return sum < q ? sum : q;
         }
 
         private int leastCostFrom(int v, int u, int lot) {

@@ -151,11 +151,12 @@ public final class KeptTest {
         x.call(4);
         x.ticks(1);
         Checks.load(x, FIVE);
-        x.plan(4, 5);
+        x.plan(4, 15);
         x.begin();
         x.resize(4, 0, 0);
-        x.ticks(7);
+        x.ticks(2);
         Checks.is("entries()", x.entries() > 0, true);
+        Checks.is("SLIP", x.now(4), 60 + 20 - (50 + 30 + 30) * 10 / 15);
         Checks.load(x, TEXT);
         Checks.is("planned(0)", x.planned(0), 0);
         Checks.is("venue(0, 5)", x.venue(0, 5), 2);

@@ -100,6 +100,12 @@ public final class PlanTest {
     }
 
     private static void severalMoves() {
+        OrderSplit prime = Checks.made("order 9 limit 9 life 1;venue a plain lot 2" + FREE + ";venue b plain lot 3" + FREE
+            + ";level a 5 9;level b 3 6");
+        prime.plan(0, 4);
+        Checks.is("a hasn't 6", prime.move(), -2);
+        prime.plan(0, 6);
+        Checks.is("6 from a to b", prime.move(), 1);
         OrderSplit x = Checks.made("order 9 limit 9 life 1;venue a plain lot 1" + FREE + ";venue b plain lot 1" + FREE
             + ";venue c plain lot 1" + FREE + ";level a 5 9;level b 3 9;level c 3 9");
         x.plan(0, 2);

@@ -23,6 +23,7 @@ public final class RunTest {
         over();
         eventsAsTold();
         neverBoughtTwice();
+        thirtyLevels();
         Checks.end("RunTest");
     }
 
@@ -434,5 +435,30 @@ public final class RunTest {
         now(x, 19, 6, 14, 140, 0, 2, 0, 0);
         x.ticks(50);
         now(x, 69, 0, 20, 200, 0, 2, 1, 0);
+    }
+
+    /** As many LEVELS as there can be: each a marginal price and an ENTRY of its own. */
+    private static void thirtyLevels() {
+        StringBuilder t = new StringBuilder("order 30 limit 30 life 1");
+        for (char c = 'a'; c < 'f'; c++) {
+            t.append(";venue ").append(c).append(" plain lot 1").append(FREE).append(" delay 1");
+        }
+        for (int i = 0; i < 30; i++) {
+            t.append(";level ").append((char) ('a' + i % 5)).append(' ').append(i + 1).append(" 1");
+        }
+        OrderSplit x = Checks.made(t.toString());
+        Checks.is("bound(30)", x.bound(30), 465);
+        Checks.is("margin(30)", x.margin(30), 30);
+        Checks.is("margin(29)", x.margin(29), 29);
+        Checks.is("best(30)", x.best(30), 465);
+        Checks.is("begin()", x.begin(), 5);
+        x.ticks(2);
+        now(x, 2, 0, 30, 465, 0, 1, 1, 0);
+        Checks.is("entries()", x.entries(), 30);
+        for (int i = 0; i < 30; i++) {
+            Checks.is("VENUE of " + i, x.entry(i, 0), i / 6);
+            Checks.is("PRICE of " + i, x.entry(i, 1), 1 + i / 6 + i % 6 * 5);
+            Checks.is("units of " + i, x.entry(i, 2), 1);
+        }
     }
 }

@@ -172,6 +172,8 @@ public final class TextTest {
         bad(1, "^");
         bad(1, "   ^");
         bad(1, "^orders 1");
+        bad(1, "^arder 1");
+        bad(1, "^ordex 1");
         bad(1, "^;");
         bad(1, "^1");
         bad(1, "^Order");
@@ -193,7 +195,11 @@ public final class TextTest {
         bad(1, HEAD + "venue ^1");
         bad(1, HEAD + "venue ^abcdefg plain");
         bad(1, HEAD + "venue ax ^bold");
+        bad(1, HEAD + "venue ax ^clat");
         bad(1, HEAD + "venue ax plain ^fee");
+        bad(1, HEAD + "venue ax plain lot 1 ^least");
+        bad(1, HEAD + "venue ax plain lot 1 fee 1 ^delay");
+        bad(1, HEAD + "venue ax plain lot 1 fee 1 least 1 ^least");
         bad(1, HEAD + "venue ax plain lot 1 fee - ^- 1");
         bad(1, HEAD + "venue ax plain lot ^- 1");
         bad(1, HEAD + "venue ax plain lot 1 fee -^");
