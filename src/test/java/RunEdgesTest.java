@@ -30,11 +30,15 @@ public final class RunEdgesTest {
         ticksToTheirEnds();
         chargeAsItEnds();
         slipByLowerWholes();
+        slipOfOneUnit();
         ledgerInItsOrder();
+        ledgerThatIsFull();
+        ledgerThatWasGoneBack();
         willIsWhatComes();
         willChangesNothing();
         resizeInTheRun();
         keptInEachState();
+        callsOfTheSplitBefore();
         Checks.end("RunEdgesTest");
     }
 
@@ -549,6 +553,18 @@ public final class RunEdgesTest {
         }
     }
 
+    /** The least PART that there is; a cheaper unit came to be ahead of it. */
+    private static void slipOfOneUnit() {
+        OrderSplit x = Checks.made("order 1 limit 9 life 1;venue a flat lot 1 fee 0 least 4 delay 1;level a 1 1;level a 3 1");
+        x.resize(0, 0, 0);
+        x.begin();
+        Checks.is("HOPE", x.part(0, 3), 7);
+        x.resize(0, 0, 1);
+        Checks.is("ticks(1)", x.ticks(1), 1);
+        Checks.is("SPENT", x.now(3), 5);
+        Checks.is("SLIP", x.now(4), -2);
+    }
+
     /** ENTRIES in the order in which each came first, by VENUE and PRICE; more of one is no new one. */
     private static void ledgerInItsOrder() {
         OrderSplit x = Checks.made("order 8 limit 50 life 9;venue a plain lot 1" + FREE + " delay 2;venue b plain lot 1" + FREE
@@ -579,6 +595,54 @@ public final class RunEdgesTest {
             Checks.is("bought(0, " + price + ")", x.bought(0, price), 0);
             Checks.is("trouble()", x.trouble(), 0);
         }
+    }
+
+    /** 30 LEVELS, so 30 ENTRIES: no PRICE that isn't among them is found. */
+    private static void ledgerThatIsFull() {
+        StringBuilder t = new StringBuilder("order 30 limit 30 life 1");
+        for (char c = 'a'; c < 'f'; c++) {
+            t.append(";venue ").append(c).append(" plain lot 1").append(FREE).append(" delay 1");
+        }
+        for (int i = 0; i < 30; i++) {
+            t.append(";level ").append((char) ('a' + i % 5)).append(' ').append(i / 5 + 1).append(" 1");
+        }
+        OrderSplit x = Checks.made(t.toString());
+        x.begin();
+        Checks.is("ticks(1)", x.ticks(1), 30);
+        Checks.is("entries()", x.entries(), 30);
+        for (int v = 0; v < 5; v++) {
+            for (int price = 0; price <= 7; price++) {
+                Checks.is("bought(" + v + ", " + price + ")", x.bought(v, price), price >= 1 && price <= 6 ? 1 : 0);
+            }
+        }
+        entry(x, 29, 4, 6, 1);
+        Checks.refused(x, "entry(30, 0)", x.entry(30, 0), -1, 1);
+        // all of them once more
+        for (int i = 0; i < 30; i++) {
+            x.resize(i % 5, i / 5, 1);
+        }
+        x.ticks(3);
+        Checks.is("entries(), for REST is 0", x.entries(), 30);
+        Checks.is("entry(29, 2)", x.entry(29, 2), 1);
+    }
+
+    /** What was bought since then was never bought. */
+    private static void ledgerThatWasGoneBack() {
+        OrderSplit x = one(4, 1, 1, 1, ";level a 10 2;level a 11 2");
+        x.begin();
+        x.keep();
+        x.ticks(2);
+        Checks.is("entries()", x.entries(), 2);
+        x.back();
+        Checks.is("entries() as kept", x.entries(), 0);
+        Checks.is("bought(0, 10) as kept", x.bought(0, 10), 0);
+        Checks.is("bought(0, 11) as kept", x.bought(0, 11), 0);
+        Checks.refused(x, "entry(0, 0) as kept", x.entry(0, 0), -1, 1);
+        x.resize(0, 0, 0);
+        Checks.is("ticks(1), another way", x.ticks(1), 2);
+        Checks.is("entries()", x.entries(), 1);
+        entry(x, 0, 0, 11, 2);
+        Checks.is("bought(0, 10)", x.bought(0, 10), 0);
     }
 
     private static void entry(OrderSplit x, int i, int venue, int price, int units) {
@@ -694,5 +758,27 @@ public final class RunEdgesTest {
         }
         x.keep();
         return x;
+    }
+
+    /** A new SPLIT has none of them, on their way or not. */
+    private static void callsOfTheSplitBefore() {
+        String text = "order 9 limit 50 life 2;venue a plain lot 1" + FREE + " delay 9;level a 10 9";
+        OrderSplit x = Checks.made(text);
+        x.begin();
+        Checks.is("call(0)", x.call(0), 9);
+        Checks.load(x, text);
+        Checks.refused(x, "part(0, 6), not BEGUN", x.part(0, 6), Checks.MIN, 5);
+        Checks.is("begin()", x.begin(), 1);
+        Checks.is("part(0, 6)", x.part(0, 6), -2);
+        x.ticks(3);
+        Checks.is("call(0) anew", x.call(0), 12);
+        // nor has what was kept ahead of a CALL
+        Checks.load(x, text);
+        x.begin();
+        x.keep();
+        x.call(0);
+        x.back();
+        Checks.is("part(0, 6) as kept", x.part(0, 6), -2);
+        Checks.is("call(0) once more", x.call(0), 9);
     }
 }

@@ -21,6 +21,7 @@ public final class SplitEdgesTest {
         fewerThanAsked();
         mostUnitsAheadOfCost();
         likeOnes();
+        afterSizesBecameLess();
         boundByUnits();
         boundOfKinds();
         gapOfFewerUnits();
@@ -271,6 +272,23 @@ public final class SplitEdgesTest {
         Checks.is("share(3, 2)", x.share(3, 2), 3);
         x.fee(2, 1);
         Checks.is("share(4, 1)", x.share(4, 1), 4);
+    }
+
+    /** What was asked before doesn't count any more. */
+    private static void afterSizesBecameLess() {
+        OrderSplit x = Checks.made("order 9 limit 9 life 1;venue a plain lot 1" + FREE + ";venue b plain lot 1" + FREE
+            + ";level a 5 9;level b 5 9");
+        Checks.is("share(5, 0)", x.share(5, 0), 5);
+        Checks.is("greedy(5, 2)", x.greedy(5, 2), 1);
+        x.resize(0, 0, 1);
+        Checks.is("share(5, 0) of less", x.share(5, 0), 1);
+        Checks.is("share(5, 1) of less", x.share(5, 1), 4);
+        Checks.is("greedy(5, 2) of less", x.greedy(5, 2), 3);
+        x.resize(0, 0, 0);
+        Checks.is("share(5, 0) of none", x.share(5, 0), 0);
+        x.resize(1, 0, 0);
+        Checks.is("units(5) of none at all", x.units(5), 0);
+        Checks.is("best(5) of none at all", x.best(5), 0);
     }
 
     // ---- BOUND, MARGIN, GAP

@@ -23,6 +23,7 @@ public final class TextEdgesTest {
         risingTimes();
         lengthsOfTokens();
         namesThatAreWords();
+        namesOfOneLetter();
         everyByte();
         everyCut();
         everyToken();
@@ -227,6 +228,23 @@ public final class TextEdgesTest {
             bad(2, HEAD + VENUE + ";level ^" + name + " 1 1");
             bad(2, MARKET + ";event 1 ^" + name + " 0 0");
         }
+    }
+
+    /** NAMES that differ by how long they are, or by their last letter alone. */
+    private static void namesOfOneLetter() {
+        for (char c = 'a'; c <= 'z'; c++) {
+            StringBuilder t = new StringBuilder(HEAD);
+            for (int n = 1; n <= 5; n++) {
+                t.append(VENUE.replace("venue a", "venue " + String.valueOf(c).repeat(n + 1))).append(';');
+            }
+            good(t + "level " + String.valueOf(c).repeat(2) + " 1 1", 5);
+            bad(2, t + "level ^" + c + " 1 1");
+            char next = c == 'z' ? 'a' : (char) (c + 1);
+            bad(2, t + "level ^" + String.valueOf(c).repeat(5) + next + " 1 1");
+            bad(2, t + "level ^" + next + String.valueOf(c).repeat(5) + " 1 1");
+        }
+        good(HEAD + VENUE + ";" + VENUE.replace("venue a", "venue aa"), 2);
+        good(HEAD + VENUE.replace("venue a", "venue b") + ";" + VENUE.replace("venue a", "venue bb"), 2);
     }
 
     /** Each of 256 bytes, ahead of a text, within and behind it: a blank alone changes nothing. */
